@@ -12,7 +12,7 @@ public final class RunProver {
 
     private final byte[] tape = new byte[TAPE_ROOM];
     private final Program program = new Program();
-    private final Parser parser = new Parser(program);
+    private final Parser parser = new Parser(program, tape);
     private final Gates gates = new Gates();
     private final Unroller unroller = new Unroller(program, gates);
     private final Clauses clauses = new Clauses();
@@ -60,7 +60,7 @@ public final class RunProver {
     public int read() {
         Arrays.fill(inputs, 0);
         unproved = 0;
-        parser.parse(tape, tapeLength);
+        parser.parse(tapeLength);
         faultKind = parser.tokens.faultKind;
         faultPlace = parser.tokens.faultPlace;
         tapeLength = 0;
@@ -265,9 +265,9 @@ public final class RunProver {
         return -1;
     }
 
-    /** The TEXT as WORDS, NUMBERS and signs, one at a time, and the first FAULT that is found. */
+    /** The TEXT cut into WORDS, NUMBERS and signs, a cursor on one of them, and the first FAULT. */
     static final class Tokens {
-        /** What stands behind a FAULT: it fits nowhere, so that every loop over tokens ends there. */
+        /** What the cursor shows behind a FAULT: it fits nowhere, so every loop over tokens ends. */
         static final int STOP = 0;
         static final int END = 1;
         static final int BAD = 2;
@@ -315,6 +315,8 @@ public final class RunProver {
         static final int XOR = 44;
         static final int INVERT = 45;
         static final int NOT = 46;
+        /** The first WORD, NUMBER or sign that is too many, whatever it is. */
+        static final int TOO_MANY = 47;
 
         static final int MOST = 8000;
         static final int MOST_NESTED = 50;
@@ -323,27 +325,55 @@ public final class RunProver {
         /** In the order of the kinds from WIDTH on, each closed by a semicolon. */
         private static final String KEYWORDS =
             "width;var;fun;any;assume;assert;if;else;while;limit;less;";
+        private static final String SIGNS = ";,:?()[]{}=<>+-*/%&|^~!";
+        private static final int[] SIGN_KINDS = {SEMICOLON, COMMA, COLON, QUESTION, OPEN, CLOSE,
+            OPEN_INDEX, CLOSE_INDEX, OPEN_BLOCK, CLOSE_BLOCK, ASSIGN, BELOW, ABOVE, PLUS, MINUS,
+            TIMES, DIVIDE, REST, AND, OR, XOR, INVERT, NOT};
 
-        private byte[] text;
+        private final int[] kinds = new int[MOST + 2];
+        private final int[] places = new int[MOST + 2];
+        /** The length of a WORD, the value of a NUMBER. */
+        private final int[] details = new int[MOST + 2];
+        private final byte[] text;
         private int length;
-        private int at;
         private int amount;
-        private int badFault;
+        private int at;
+        /** What stands at the cursor. */
         int kind;
         int place;
-        int size;
-        int number;
+        int detail;
         int faultKind;
         int faultPlace;
 
-        void begin(byte[] bytes, int bytesLength) {
-            text = bytes;
-            length = Math.min(bytesLength, bytes.length);
-            at = 0;
+        Tokens(byte[] text) {
+            this.text = text;
+        }
+
+        void begin(int textLength) {
+            length = Math.min(textLength, text.length);
             amount = 0;
             faultKind = 0;
             faultPlace = 0;
+            int next = behindBlanks(0);
+            while (next < length && amount <= MOST) {
+                next = behindBlanks(cut(next));
+            }
+            if (amount > MOST) {
+                kinds[MOST] = TOO_MANY;
+            }
+            kinds[amount] = END;
+            places[amount] = length;
+            at = -1;
             advance();
+        }
+
+        void advance() {
+            if (faultKind == 0 && at < amount) {
+                at++;
+                kind = kinds[at];
+                place = places[at];
+                detail = details[at];
+            }
         }
 
         void fail(int fault, int where) {
@@ -355,21 +385,26 @@ public final class RunProver {
         }
 
         void refuse() {
-            fail(kind == BAD ? badFault : 1, place);
+            fail(misfit(), place);
+        }
+
+        /** The FAULT of what can't stand at the cursor. */
+        private int misfit() {
+            return kind == TOO_MANY ? 4 : 1;
         }
 
         void take(int wanted) {
             if (kind == wanted) {
                 advance();
             } else {
-                refuse();
+                fail(misfit(), place);
             }
         }
 
         int takeNumber(int least, int most) {
-            int taken = number;
+            int taken = detail;
             if (kind != NUMBER) {
-                refuse();
+                fail(misfit(), place);
             } else if (taken < least || taken > most) {
                 fail(3, place);
             } else {
@@ -386,76 +421,76 @@ public final class RunProver {
             return nest > MOST_NESTED;
         }
 
-        void advance() {
-            if (faultKind != 0) {
-                return;
-            }
-            skipBlanks();
-            place = at;
-            size = 1;
-            if (at >= length) {
-                kind = END;
-                return;
-            }
-            badFault = 1;
-            int first = text[at];
-            if (isLetter(first)) {
-                readWord();
-            } else if (isDigit(first)) {
-                readNumber();
-            } else {
-                kind = signKind(first, at + 1 < length ? text[at + 1] : 0);
-            }
-            at += size;
-            amount++;
-            if (amount > MOST) {
-                kind = BAD;
-                badFault = 4;
-            }
-        }
-
-        private void skipBlanks() {
+        private int behindBlanks(int from) {
             boolean remark = false;
-            for (; at < length; at++) {
-                int sign = text[at];
+            for (int i = from; i < length; i++) {
+                int sign = text[i];
                 if (remark) {
                     remark = sign != '\n';
                 } else if (sign == '#') {
                     remark = true;
                 } else if (sign != ' ' && sign != '\t' && sign != '\n' && sign != '\r') {
-                    return;
+                    return i;
                 }
             }
+            return length;
         }
 
-        private void readWord() {
-            int stop = at + 1;
+        /** Takes in what starts at a place: where it ends. */
+        private int cut(int from) {
+            int first = text[from];
+            int stop = from + 1;
+            places[amount] = from;
+            if (isLetter(first)) {
+                stop = wordEnd(from);
+                details[amount] = stop - from;
+                kinds[amount] = stop - from > LONGEST_WORD ? BAD : wordKind(from, stop - from);
+            } else if (isDigit(first)) {
+                stop = numberEnd(from);
+                details[amount] = stop - from > LONGEST_NUMBER ? 0 : numberIn(from, stop);
+                kinds[amount] = stop - from > LONGEST_NUMBER ? BAD : NUMBER;
+            } else {
+                int second = stop < length ? text[stop] : 0;
+                int pair = pairKind(first, second);
+                stop += pair != BAD ? 1 : 0;
+                kinds[amount] = pair != BAD ? pair : signKind(first);
+            }
+            amount++;
+            return stop;
+        }
+
+        private int wordEnd(int from) {
+            int stop = from;
             while (stop < length && (isLetter(text[stop]) || isDigit(text[stop]) || text[stop] == '_')) {
                 stop++;
             }
-            size = stop - at;
-            kind = size > LONGEST_WORD ? BAD : wordKind();
+            return stop;
         }
 
-        private void readNumber() {
-            int stop = at;
-            number = 0;
+        private int numberEnd(int from) {
+            int stop = from;
             while (stop < length && isDigit(text[stop])) {
-                number = number * 10 + (text[stop] - '0');
                 stop++;
             }
-            size = stop - at;
-            kind = size > LONGEST_NUMBER ? BAD : NUMBER;
+            return stop;
         }
 
-        private int wordKind() {
+        private int numberIn(int from, int stop) {
+            int number = 0;
+            for (int i = from; i < stop; i++) {
+                number = number * 10 + (text[i] - '0');
+            }
+            return number;
+        }
+
+        private int wordKind(int from, int size) {
             int candidate = WIDTH;
             int matched = 0;
             boolean same = true;
             for (int i = 0; i < KEYWORDS.length(); i++) {
                 char sign = KEYWORDS.charAt(i);
                 if (sign != ';') {
-                    same = same && matched < size && text[at + matched] == sign;
+                    same = same && matched < size && text[from + matched] == sign;
                     matched++;
                 } else if (same && matched == size) {
                     return candidate;
@@ -468,77 +503,40 @@ public final class RunProver {
             return NAME;
         }
 
-        private int signKind(int first, int second) {
-            switch (first) {
-                case ';':
-                    return SEMICOLON;
-                case ',':
-                    return COMMA;
-                case ':':
-                    return COLON;
-                case '?':
-                    return QUESTION;
-                case '(':
-                    return OPEN;
-                case ')':
-                    return CLOSE;
-                case '[':
-                    return OPEN_INDEX;
-                case ']':
-                    return CLOSE_INDEX;
-                case '{':
-                    return OPEN_BLOCK;
-                case '}':
-                    return CLOSE_BLOCK;
-                default:
-                    return operatorKind(first, second);
-            }
-        }
-
-        private int operatorKind(int first, int second) {
+        private static int pairKind(int first, int second) {
             switch (first) {
                 case '=':
-                    return second == '=' ? pair(EQUAL) : ASSIGN;
+                    return second == '=' ? EQUAL : BAD;
                 case '!':
-                    return second == '=' ? pair(UNEQUAL) : NOT;
+                    return second == '=' ? UNEQUAL : BAD;
                 case '<':
-                    return second == '=' ? pair(AT_MOST) : second == '<' ? pair(SHIFT_LEFT) : BELOW;
+                    return second == '=' ? AT_MOST : second == '<' ? SHIFT_LEFT : BAD;
                 case '>':
-                    return second == '=' ? pair(AT_LEAST) : second == '>' ? pair(SHIFT_RIGHT) : ABOVE;
+                    return second == '=' ? AT_LEAST : second == '>' ? SHIFT_RIGHT : BAD;
                 case '&':
-                    return second == '&' ? pair(BOTH) : AND;
+                    return second == '&' ? BOTH : BAD;
                 case '|':
-                    return second == '|' ? pair(EITHER) : OR;
-                case '+':
-                    return PLUS;
-                case '-':
-                    return MINUS;
-                case '*':
-                    return TIMES;
-                case '/':
-                    return DIVIDE;
-                case '%':
-                    return REST;
-                case '^':
-                    return XOR;
-                case '~':
-                    return INVERT;
+                    return second == '|' ? EITHER : BAD;
                 default:
                     return BAD;
             }
         }
 
-        private int pair(int signOfTwo) {
-            size = 2;
-            return signOfTwo;
+        private static int signKind(int sign) {
+            for (int i = 0; i < SIGNS.length(); i++) {
+                if (SIGNS.charAt(i) == sign) {
+                    return SIGN_KINDS[i];
+                }
+            }
+            return BAD;
         }
 
         /** Whether the WORD at the cursor is the one that stands at another place. */
         boolean sameWord(int where, int wordSize) {
-            if (wordSize != size) {
+            if (wordSize != detail) {
                 return false;
             }
-            for (int i = 0; i < size; i++) {
+            for (int i = 0; i < wordSize; i++) {
                 if (text[where + i] != text[place + i]) {
                     return false;
                 }
@@ -600,8 +598,9 @@ public final class RunProver {
                 tokens.fail(4, tokens.place);
             } else {
                 places[amount] = tokens.place;
-                sizes[amount] = tokens.size;
+                sizes[amount] = tokens.detail;
                 kinds[amount] = kind;
+                numbers[amount] = 0;
                 amount++;
                 tokens.advance();
                 return amount - 1;
@@ -788,6 +787,8 @@ public final class RunProver {
         private int waitingCount;
         boolean inFunction;
         int cost;
+        /** The greatest DEPTH so far. */
+        int deepest;
 
         Expressions(Tokens tokens, Names names, Program program) {
             this.tokens = tokens;
@@ -799,6 +800,7 @@ public final class RunProver {
             waitingCount = 0;
             inFunction = false;
             cost = 0;
+            deepest = 0;
         }
 
         /** COSTS above the limit need no exact number, but must not run over. */
@@ -807,20 +809,24 @@ public final class RunProver {
         }
 
         /** Reads an EXPRESSION: its DEPTH. */
-        int expression(int nest) {
+        private int expression(int nest) {
             int base = waitingCount;
             int depth = operand(nest);
             for (int k = 0; k < Tokens.MOST && level(tokens.kind) > 0; k++) {
                 depth = settle(base, level(tokens.kind), depth);
-                await(tokens.kind, depth);
+                hold(tokens.kind, depth);
                 tokens.advance();
                 depth = operand(nest);
             }
             depth = settle(base, 1, depth);
-            return tokens.kind == Tokens.QUESTION ? choice(nest, depth) : depth;
+            if (tokens.kind == Tokens.QUESTION) {
+                depth = choice(nest, depth);
+            }
+            deepest = Math.max(deepest, depth);
+            return depth;
         }
 
-        private void await(int operator, int depth) {
+        private void hold(int operator, int depth) {
             if (waitingCount < MOST_WAITING) {
                 waiting[waitingCount] = operator;
                 waitingDepth[waitingCount] = depth;
@@ -830,24 +836,24 @@ public final class RunProver {
 
         /** Lets the waiting operators that bind at least so tightly have their right operand. */
         private int settle(int base, int level, int depth) {
-            int deepest = depth;
+            int settled = depth;
             while (waitingCount > base && level(waiting[waitingCount - 1]) >= level) {
                 waitingCount--;
-                deepest = Math.max(waitingDepth[waitingCount], deepest + 1);
+                settled = Math.max(waitingDepth[waitingCount], settled + 1);
                 program.emit(waiting[waitingCount], 0);
                 addCost(signCost(waiting[waitingCount]));
             }
-            return deepest;
+            return settled;
         }
 
         private int choice(int nest, int depth) {
             tokens.advance();
-            int deepest = Math.max(depth, expression(nest + 1));
+            int within = Math.max(depth, expression(nest + 1));
             tokens.take(Tokens.COLON);
-            deepest = Math.max(deepest, expression(nest + 1));
+            within = Math.max(within, expression(nest + 1));
             program.emit(Program.CHOOSE, 0);
             addCost(5 * program.width);
-            return deepest + 1;
+            return within + 1;
         }
 
         private int operand(int nest) {
@@ -938,12 +944,12 @@ public final class RunProver {
 
         private int call(int function, int place, int nest) {
             int wanted = program.ofFunction(function, Program.PARAMETERS);
-            int deepest = program.ofFunction(function, Program.DEPTH);
+            int within = program.ofFunction(function, Program.DEPTH);
             int given = 0;
             tokens.take(Tokens.OPEN);
             boolean more = true;
             while (more && given < MOST_PARAMETERS) {
-                deepest = Math.max(deepest, expression(nest + 1));
+                within = Math.max(within, expression(nest + 1));
                 given++;
                 more = tokens.kind == Tokens.COMMA && given < wanted;
                 if (more) {
@@ -957,7 +963,7 @@ public final class RunProver {
             tokens.take(Tokens.CLOSE);
             program.emit(Program.CALL, function);
             addCost(1 + program.ofFunction(function, Program.COST));
-            return deepest + 1;
+            return within + 1;
         }
 
         /** How tightly a sign between two operands binds, from 1; 0 if it is none such. */
@@ -1033,25 +1039,24 @@ public final class RunProver {
         private static final int MOST_PARAMETERS = 8;
         private static final int STATEMENT_COST = 8;
 
-        final Tokens tokens = new Tokens();
+        final Tokens tokens;
         private final Names names = new Names();
         private final Program program;
         private final Expressions expressions;
         private int bits;
-        private int deepest;
 
-        Parser(Program program) {
+        Parser(Program program, byte[] text) {
             this.program = program;
+            tokens = new Tokens(text);
             expressions = new Expressions(tokens, names, program);
         }
 
-        void parse(byte[] text, int length) {
+        void parse(int length) {
             program.clear();
             names.amount = 0;
             expressions.begin();
             bits = 0;
-            deepest = 0;
-            tokens.begin(text, length);
+            tokens.begin(length);
             tokens.take(Tokens.WIDTH);
             program.width = tokens.takeNumber(1, Words.STRIDE);
             tokens.take(Tokens.SEMICOLON);
@@ -1061,7 +1066,8 @@ public final class RunProver {
                 tokens.refuse();
             }
             program.costs = expressions.cost;
-            if (deepest > MOST_DEPTH || program.costs > MOST_COSTS || bits > Unroller.MOST_BITS) {
+            if (expressions.deepest > MOST_DEPTH || program.costs > MOST_COSTS
+                || bits > Unroller.MOST_BITS) {
                 tokens.fail(4, length);
             }
         }
@@ -1103,7 +1109,7 @@ public final class RunProver {
             tokens.take(Tokens.ASSIGN);
             int from = program.codeSize;
             expressions.inFunction = true;
-            int depth = expression(0);
+            int depth = expressions.expression(0);
             expressions.inFunction = false;
             tokens.take(Tokens.SEMICOLON);
             names.forgetFrom(firstParameter);
@@ -1124,12 +1130,6 @@ public final class RunProver {
                 }
             }
             return amount;
-        }
-
-        private int expression(int nest) {
-            int depth = expressions.expression(nest);
-            deepest = Math.max(deepest, depth);
-            return depth;
         }
 
         /** Reads STATEMENTS up to a } or the end: the first one, -1 if there is none. */
@@ -1196,40 +1196,29 @@ public final class RunProver {
             int name = names.find(tokens);
             int kind = names.kindOf(name);
             int slot = names.numberOf(name);
-            if (kind == Names.ARRAY) {
-                return elementSetting(slot, nest);
-            }
-            if (kind != Names.VARIABLE) {
+            if (kind != Names.VARIABLE && kind != Names.ARRAY) {
                 tokens.fail(2, tokens.place);
                 return -1;
             }
-            int statement = program.addStatement(Program.SET);
+            boolean array = kind == Names.ARRAY;
+            int statement = program.addStatement(array ? Program.SET_ELEMENT : Program.SET);
             program.set(statement, Program.SLOT, slot);
+            if (array) {
+                program.set(statement, Program.CHECK, addCheck(Program.KIND_ARRAY));
+            }
             tokens.advance();
-            expressions.addCost(4 * program.width);
-            assigned(statement, nest);
-            return statement;
-        }
-
-        private int elementSetting(int slot, int nest) {
-            int statement = program.addStatement(Program.SET_ELEMENT);
-            program.set(statement, Program.SLOT, slot);
-            program.set(statement, Program.CHECK, addCheck(Program.KIND_ARRAY));
-            tokens.advance();
-            tokens.take(Tokens.OPEN_INDEX);
-            expression(nest + 1);
-            tokens.take(Tokens.CLOSE_INDEX);
-            program.set(statement, Program.MIDDLE, program.codeSize);
-            expressions.addCost(9 * program.slotSize[slot] * program.width);
-            assigned(statement, nest);
-            return statement;
-        }
-
-        private void assigned(int statement, int nest) {
+            if (array) {
+                tokens.take(Tokens.OPEN_INDEX);
+                expressions.expression(nest + 1);
+                tokens.take(Tokens.CLOSE_INDEX);
+                program.set(statement, Program.MIDDLE, program.codeSize);
+            }
             tokens.take(Tokens.ASSIGN);
-            expression(nest);
+            expressions.expression(nest);
             program.set(statement, Program.TO, program.codeSize);
             tokens.take(Tokens.SEMICOLON);
+            expressions.addCost((array ? 9 * program.slotSize[slot] : 4) * program.width);
+            return statement;
         }
 
         private int drawing() {
@@ -1264,7 +1253,7 @@ public final class RunProver {
         }
 
         private void condition(int statement, int nest) {
-            expression(nest);
+            expressions.expression(nest);
             program.set(statement, Program.TO, program.codeSize);
             expressions.addCost(3 * program.width);
         }
@@ -1392,33 +1381,30 @@ public final class RunProver {
 
         /** The one literal if the choice is true, else the other. */
         int mux(int choice, int one, int other) {
-            if ((choice & 1) != 0) {
-                return pick(choice ^ 1, other, one);
+            int swap = (choice & 1) != 0 ? one ^ other : 0;
+            int c = choice & ~1;
+            int a = one ^ swap;
+            int b = other ^ swap;
+            if (a == b || c == FALSE) {
+                return b;
             }
-            return pick(choice, one, other);
-        }
-
-        private int pick(int choice, int one, int other) {
-            if (one == other || choice == FALSE) {
-                return other;
+            if (a == TRUE || a == c) {
+                return and(c ^ 1, b ^ 1) ^ 1;
             }
-            if (one == TRUE || one == choice) {
-                return and(choice ^ 1, other ^ 1) ^ 1;
+            if (a == FALSE || a == (c ^ 1)) {
+                return and(c ^ 1, b);
             }
-            if (one == FALSE || one == (choice ^ 1)) {
-                return and(choice ^ 1, other);
+            if (b == FALSE || b == c) {
+                return and(c, a);
             }
-            if (other == FALSE || other == choice) {
-                return and(choice, one);
+            if (b == TRUE || b == (c ^ 1)) {
+                return and(c, a ^ 1) ^ 1;
             }
-            if (other == TRUE || other == (choice ^ 1)) {
-                return and(choice, one ^ 1) ^ 1;
+            if ((a ^ b) == 1) {
+                return xor(c, b);
             }
-            if ((one ^ other) == 1) {
-                return xor(choice, other);
-            }
-            int turned = one & 1;
-            return gate(MUX, choice, one ^ turned, other ^ turned) ^ turned;
+            int turned = a & 1;
+            return gate(MUX, c, a ^ turned, b ^ turned) ^ turned;
         }
 
         /** The same gate is made only once, so that what is equal by its making is seen as equal. */
@@ -1565,11 +1551,11 @@ public final class RunProver {
         }
 
         private int truthOf(int row) {
-            int any = Gates.FALSE;
+            int none = Gates.TRUE;
             for (int bit = 0; bit < width; bit++) {
-                any = gates.or(any, rows[row + bit]);
+                none = gates.and(none, rows[row + bit] ^ 1);
             }
-            return any;
+            return none ^ 1;
         }
 
         private void setTruth(int row, int literal) {
@@ -1577,38 +1563,27 @@ public final class RunProver {
             rows[row] = literal;
         }
 
+        /** Puts what a sign makes of the top rows in their place. */
         void apply(int code) {
-            int last = (top - 1) * STRIDE;
+            int b = (top - 1) * STRIDE;
+            int a = b - STRIDE;
             switch (code) {
                 case Program.NEGATE:
-                    negate(last);
-                    break;
+                    negate(b);
+                    return;
                 case Tokens.INVERT:
-                    for (int bit = 0; bit < width; bit++) {
-                        rows[last + bit] ^= 1;
-                    }
-                    break;
+                    invert(b);
+                    return;
                 case Tokens.NOT:
-                    setTruth(last, truthOf(last) ^ 1);
-                    break;
+                    setTruth(b, truthOf(b) ^ 1);
+                    return;
                 case Program.CHOOSE:
-                    choose(last - 2 * STRIDE, last - STRIDE, last);
+                    choose(a - STRIDE, a, b);
                     top -= 2;
-                    break;
-                default:
-                    combine(code, last - STRIDE, last);
-                    top--;
-                    break;
-            }
-        }
-
-        private void combine(int code, int a, int b) {
-            switch (code) {
+                    return;
                 case Tokens.PLUS:
-                    add(a, b, Gates.FALSE);
-                    break;
                 case Tokens.MINUS:
-                    add(a, b, Gates.TRUE);
+                    add(a, b, code == Tokens.MINUS ? Gates.TRUE : Gates.FALSE);
                     break;
                 case Tokens.TIMES:
                     multiply(a, b);
@@ -1626,33 +1601,31 @@ public final class RunProver {
                 case Tokens.XOR:
                     bitwise(code, a, b);
                     break;
-                default:
-                    setTruth(a, compare(code, a, b));
+                case Tokens.BOTH:
+                case Tokens.EITHER:
+                    join(code, a, b);
                     break;
+                case Tokens.EQUAL:
+                case Tokens.UNEQUAL:
+                    compareEqual(code, a, b);
+                    break;
+                default:
+                    compareOrder(code, a, b);
+                    break;
+            }
+            top--;
+        }
+
+        private void invert(int a) {
+            for (int bit = 0; bit < width; bit++) {
+                rows[a + bit] ^= 1;
             }
         }
 
-        private int compare(int code, int a, int b) {
-            switch (code) {
-                case Tokens.EQUAL:
-                    return equal(a, b);
-                case Tokens.UNEQUAL:
-                    return equal(a, b) ^ 1;
-                case Tokens.BELOW:
-                    return below(a, b, Gates.FALSE, false);
-                case Tokens.AT_MOST:
-                    return below(a, b, Gates.TRUE, false);
-                case Tokens.ABOVE:
-                    return below(a, b, Gates.TRUE, false) ^ 1;
-                case Tokens.AT_LEAST:
-                    return below(a, b, Gates.FALSE, false) ^ 1;
-                case Program.SIGNED_BELOW:
-                    return below(a, b, Gates.FALSE, true);
-                case Tokens.BOTH:
-                    return gates.and(truthOf(a), truthOf(b));
-                default:
-                    return gates.or(truthOf(a), truthOf(b));
-            }
+        private void join(int code, int a, int b) {
+            int one = truthOf(a);
+            int other = truthOf(b);
+            setTruth(a, code == Tokens.BOTH ? gates.and(one, other) : gates.or(one, other));
         }
 
         private void bitwise(int code, int a, int b) {
@@ -1664,23 +1637,26 @@ public final class RunProver {
             }
         }
 
-        private int equal(int a, int b) {
+        private void compareEqual(int code, int a, int b) {
             int same = Gates.TRUE;
             for (int bit = 0; bit < width; bit++) {
                 same = gates.and(same, gates.xor(rows[a + bit], rows[b + bit]) ^ 1);
             }
-            return same;
+            setTruth(a, code == Tokens.EQUAL ? same : same ^ 1);
         }
 
-        /** Whether a is below b, or, if a tie counts, at most b: the highest bit that differs tells. */
-        private int below(int a, int b, int tie, boolean signed) {
-            int less = tie;
+        /** The highest bit that differs tells which is less; with a sign it is turned there. */
+        private void compareOrder(int code, int a, int b) {
+            boolean tie = code == Tokens.AT_MOST || code == Tokens.ABOVE;
+            boolean turned = code == Tokens.ABOVE || code == Tokens.AT_LEAST;
+            int less = tie ? Gates.TRUE : Gates.FALSE;
             for (int bit = 0; bit < width; bit++) {
-                int differs = gates.xor(rows[a + bit], rows[b + bit]);
-                boolean turned = signed && bit == width - 1;
-                less = gates.mux(differs, turned ? rows[a + bit] : rows[b + bit], less);
+                int x = rows[a + bit];
+                int y = rows[b + bit];
+                boolean sign = code == Program.SIGNED_BELOW && bit == width - 1;
+                less = gates.mux(gates.xor(x, y), sign ? x : y, less);
             }
-            return less;
+            setTruth(a, turned ? less ^ 1 : less);
         }
 
         /** a + b, or a - b, which is a + ~b + 1. */
@@ -1717,16 +1693,30 @@ public final class RunProver {
             System.arraycopy(result, 0, rows, a, width);
         }
 
-        /** Long division; a divisor of 0 fits every time, which gives what the document asks. */
+        /**
+         * Long division; a divisor of 0 fits every time, which gives what the document asks. The rest
+         * is never above what was taken of a, so it has no more bits than that.
+         */
         private void divide(int a, int b, boolean rest) {
             Arrays.fill(result, Gates.FALSE);
-            for (int step = width - 1; step >= 0; step--) {
-                System.arraycopy(result, 0, result, 1, STRIDE - 1);
-                result[0] = rows[a + step];
-                int fits = subtract(b, width - step) ^ 1;
-                rows[a + step] = fits;
-                for (int bit = 0; bit < width - step; bit++) {
-                    result[bit] = gates.mux(fits, difference[bit], result[bit]);
+            for (int taken = 1; taken <= width; taken++) {
+                for (int bit = taken - 1; bit > 0; bit--) {
+                    result[bit] = result[bit - 1];
+                }
+                result[0] = rows[a + width - taken];
+                int borrow = Gates.FALSE;
+                for (int bit = 0; bit < taken; bit++) {
+                    int y = rows[b + bit];
+                    int differs = gates.xor(result[bit], y);
+                    difference[bit] = gates.xor(differs, borrow);
+                    borrow = gates.mux(differs, y, borrow);
+                }
+                for (int bit = taken; bit < width; bit++) {
+                    borrow = gates.or(borrow, rows[b + bit]);
+                }
+                rows[a + width - taken] = borrow ^ 1;
+                for (int bit = 0; bit < taken; bit++) {
+                    result[bit] = gates.mux(borrow, result[bit], difference[bit]);
                 }
             }
             if (rest) {
@@ -1734,42 +1724,24 @@ public final class RunProver {
             }
         }
 
-        /** The difference of the rest, which has so many bits by now, and b: whether b is above it. */
-        private int subtract(int b, int bits) {
-            int borrow = Gates.FALSE;
-            for (int bit = 0; bit < width; bit++) {
-                int y = rows[b + bit];
-                if (bit < bits) {
-                    int differs = gates.xor(result[bit], y);
-                    difference[bit] = gates.xor(differs, borrow);
-                    borrow = gates.mux(differs, y, borrow);
-                } else {
-                    borrow = gates.or(borrow, y);
-                }
-            }
-            return borrow;
-        }
-
+        /** Bits of b that weigh W or more leave nothing; each other one moves a by its weight. */
         private void shift(int a, int b, boolean left) {
             int gone = Gates.FALSE;
             for (int bit = 0; bit < width; bit++) {
-                if (1 << bit < width) {
-                    shiftBy(a, 1 << bit, rows[b + bit], left);
-                } else {
-                    gone = gates.or(gone, rows[b + bit]);
+                int choice = rows[b + bit];
+                int distance = 1 << bit;
+                if (distance >= width) {
+                    gone = gates.or(gone, choice);
+                }
+                for (int k = 0; k < width && distance < width; k++) {
+                    int to = left ? width - 1 - k : k;
+                    int from = left ? to - distance : to + distance;
+                    int moved = from >= 0 && from < width ? rows[a + from] : Gates.FALSE;
+                    rows[a + to] = gates.mux(choice, moved, rows[a + to]);
                 }
             }
             for (int bit = 0; bit < width; bit++) {
                 rows[a + bit] = gates.and(rows[a + bit], gone ^ 1);
-            }
-        }
-
-        private void shiftBy(int a, int distance, int choice, boolean left) {
-            for (int k = 0; k < width; k++) {
-                int bit = left ? width - 1 - k : k;
-                int from = left ? bit - distance : bit + distance;
-                int moved = from >= 0 && from < width ? rows[a + from] : Gates.FALSE;
-                rows[a + bit] = gates.mux(choice, moved, rows[a + bit]);
             }
         }
 
@@ -1780,7 +1752,7 @@ public final class RunProver {
             }
         }
 
-        /** Puts the ELEMENT that the top row is the index of in its place: halves are left out in turn. */
+        /** Puts the ELEMENT that the top row is the index of in its place: each bit halves the choice. */
         void select(int[] cells, int from, int size) {
             int index = (top - 1) * STRIDE;
             Arrays.fill(tree, Gates.FALSE);
@@ -1788,29 +1760,21 @@ public final class RunProver {
             int beyond = Gates.FALSE;
             int left = size;
             for (int bit = 0; bit < width; bit++) {
-                if (left > 1) {
-                    left = left + 1 >> 1;
-                    halve(rows[index + bit], left);
+                int choice = rows[index + bit];
+                if (left == 1) {
+                    beyond = gates.or(beyond, choice);
                 } else {
-                    beyond = gates.or(beyond, rows[index + bit]);
+                    left = left + 1 >> 1;
+                    for (int i = 0; i < left * STRIDE; i++) {
+                        int even = i + i / STRIDE * STRIDE;
+                        tree[i] = gates.mux(choice, tree[even + STRIDE], tree[even]);
+                    }
+                    Arrays.fill(tree, left * STRIDE, tree.length, Gates.FALSE);
                 }
             }
             for (int bit = 0; bit < width; bit++) {
                 rows[index + bit] = gates.and(tree[bit], beyond ^ 1);
             }
-        }
-
-        private void halve(int choice, int left) {
-            for (int e = 0; e < left; e++) {
-                for (int bit = 0; bit < width; bit++) {
-                    int even = 2 * e * STRIDE + bit;
-                    int odd = even + STRIDE;
-                    int other = odd < tree.length ? tree[odd] : Gates.FALSE;
-                    tree[e * STRIDE + bit] = gates.mux(choice, other, tree[even]);
-                }
-            }
-            int end = left * STRIDE;
-            Arrays.fill(tree, end, tree.length, Gates.FALSE);
         }
 
         /** Whether a row is this number. */
@@ -1877,7 +1841,7 @@ public final class RunProver {
             bitCount = 0;
         }
 
-        void walk(int first, int nest) {
+        private void walk(int first, int nest) {
             int statement = nest > Tokens.MOST_NESTED ? -1 : first;
             for (int k = 0; statement >= 0 && k < Program.MOST_STATEMENTS; k++) {
                 if (program.get(statement, Program.KIND) == Program.LOOP) {
@@ -2012,30 +1976,29 @@ public final class RunProver {
                     frame = words.top - program.ofFunction(function, Program.PARAMETERS);
                     at = program.ofFunction(function, Program.BODY_FROM);
                     stop = program.ofFunction(function, Program.BODY_TO);
+                } else if (program.codes[at] < Program.CALL) {
+                    push(program.codes[at], program.operands[at], frame);
+                    at++;
                 } else {
-                    perform(program.codes[at], program.operands[at], frame);
+                    words.apply(program.codes[at]);
                     at++;
                 }
             }
         }
 
-        private void perform(int code, int operand, int frame) {
+        private void push(int code, int operand, int frame) {
             switch (code) {
                 case Program.PUSH_NUMBER:
                     words.pushNumber(operand);
                     break;
-                case Program.PUSH_VARIABLE:
-                    words.pushFrom(cells, program.slotFirst[operand] * Words.STRIDE);
-                    break;
                 case Program.PUSH_PARAMETER:
                     words.pushCopy(frame + operand);
                     break;
-                case Program.PUSH_ELEMENT:
-                    int from = program.slotFirst[operand] * Words.STRIDE;
-                    words.select(cells, from, program.slotSize[operand]);
+                case Program.PUSH_VARIABLE:
+                    words.pushFrom(cells, program.slotFirst[operand] * Words.STRIDE);
                     break;
                 default:
-                    words.apply(code);
+                    words.select(cells, program.slotFirst[operand] * Words.STRIDE, program.slotSize[operand]);
                     break;
             }
         }
@@ -2061,12 +2024,12 @@ public final class RunProver {
         /** The goals as clauses: each by itself, or one for all if one of them is enough. */
         void begin(int[] goals, int goalCount, boolean all) {
             amount = 0;
-            add(Gates.TRUE);
+            addOne(Gates.TRUE);
             if (!all) {
                 add(goals, goalCount);
             }
             for (int g = 0; all && g < goalCount; g++) {
-                add(goals[g]);
+                addOne(goals[g]);
             }
         }
 
@@ -2093,36 +2056,33 @@ public final class RunProver {
         }
 
         private void addAnd(int out, int a, int b) {
-            add(out ^ 1, a);
-            add(out ^ 1, b);
-            add(out, a ^ 1, b ^ 1);
+            addTwo(out ^ 1, a);
+            addTwo(out ^ 1, b);
+            addThree(out, a ^ 1, b ^ 1);
         }
 
         private void addXor(int out, int a, int b) {
-            add(out ^ 1, a, b);
-            add(out ^ 1, a ^ 1, b ^ 1);
-            add(out, a ^ 1, b);
-            add(out, a, b ^ 1);
+            addThree(out ^ 1, a, b);
+            addThree(out ^ 1, a ^ 1, b ^ 1);
+            addThree(out, a ^ 1, b);
+            addThree(out, a, b ^ 1);
         }
 
-        /** The last two follow from the others, but tell at once what they tell only by a choice. */
         private void addMux(int out, int choice, int one, int other) {
-            add(out ^ 1, choice ^ 1, one);
-            add(out, choice ^ 1, one ^ 1);
-            add(out ^ 1, choice, other);
-            add(out, choice, other ^ 1);
-            add(out ^ 1, one, other);
-            add(out, one ^ 1, other ^ 1);
+            addThree(out ^ 1, choice ^ 1, one);
+            addThree(out, choice ^ 1, one ^ 1);
+            addThree(out ^ 1, choice, other);
+            addThree(out, choice, other ^ 1);
         }
 
-        private void add(int a) {
+        private void addOne(int a) {
             if (fits(1)) {
                 literals[starts[amount]] = a;
                 close(1);
             }
         }
 
-        private void add(int a, int b) {
+        private void addTwo(int a, int b) {
             if (fits(2)) {
                 literals[starts[amount]] = a;
                 literals[starts[amount] + 1] = b;
@@ -2130,7 +2090,7 @@ public final class RunProver {
             }
         }
 
-        private void add(int a, int b, int c) {
+        private void addThree(int a, int b, int c) {
             if (fits(3)) {
                 literals[starts[amount]] = a;
                 literals[starts[amount] + 1] = b;
@@ -2173,8 +2133,6 @@ public final class RunProver {
         private final Clauses clauses;
         private final byte[] truth = new byte[2 * Gates.MOST];
         private final int[] assumed = new int[Gates.MOST];
-        private final int[] single = new int[1];
-        private final int[] singleChain = new int[1];
         private int assumedCount;
         private boolean refusedOne;
         /** Whether the empty clause was come to and no step before it was refused. */
@@ -2191,11 +2149,18 @@ public final class RunProver {
             refuted = false;
         }
 
-        /** A literal that follows from one clause and the literals before it. */
-        void acceptLiteral(int literal, int clause) {
-            single[0] = literal;
-            singleChain[0] = clause;
-            accept(single, 1, singleChain, 1);
+        /** A step of one literal, all others of a single clause being false by the steps before it. */
+        boolean acceptLiteral(int literal, int clause) {
+            boolean sound = clause >= 0 && clause < clauses.amount;
+            for (int i = sound ? clauses.starts[clause] : 0; sound && i < clauses.starts[clause + 1]; i++) {
+                sound = clauses.literals[i] == literal || truth[clauses.literals[i]] < 0;
+            }
+            if (sound) {
+                set(literal);
+            } else {
+                refusedOne = true;
+            }
+            return sound;
         }
 
         boolean accept(int[] step, int size, int[] chain, int length) {
@@ -2382,40 +2347,34 @@ public final class RunProver {
             }
         }
 
+        /** Draws all consequences: a clause that can't hold any more, else NONE. */
         private int propagate() {
-            int conflict = NONE;
-            while (conflict == NONE && done < trailSize) {
-                conflict = visit(trail[done] ^ 1);
-                done++;
-            }
-            return conflict;
-        }
-
-        /** Looks at the clauses that watch a literal that is false now. */
-        private int visit(int literal) {
-            int place = firstWatch[literal];
-            int before = NONE;
-            for (int k = 0; place != NONE && k < 2 * Clauses.MOST; k++) {
-                int next = nextWatch[place];
-                int other = watched[place ^ 1];
-                int spare = truth[other] > 0 ? NONE : spareLiteral(place >> 1, literal, other);
-                if (spare != NONE) {
-                    if (before == NONE) {
-                        firstWatch[literal] = next;
+            for (; done < trailSize; done++) {
+                int literal = trail[done] ^ 1;
+                int place = firstWatch[literal];
+                int before = NONE;
+                for (int k = 0; place != NONE && k < watched.length; k++) {
+                    int next = nextWatch[place];
+                    int other = watched[place ^ 1];
+                    int spare = truth[other] > 0 ? NONE : spareLiteral(place >> 1, literal, other);
+                    if (spare == NONE) {
+                        if (truth[other] < 0) {
+                            return place >> 1;
+                        }
+                        if (truth[other] == 0) {
+                            assign(other, place >> 1);
+                        }
+                        before = place;
                     } else {
-                        nextWatch[before] = next;
+                        if (before == NONE) {
+                            firstWatch[literal] = next;
+                        } else {
+                            nextWatch[before] = next;
+                        }
+                        watch(place, spare);
                     }
-                    watch(place, spare);
-                } else {
-                    if (truth[other] < 0) {
-                        return place >> 1;
-                    }
-                    if (truth[other] == 0) {
-                        assign(other, place >> 1);
-                    }
-                    before = place;
+                    place = next;
                 }
-                place = next;
             }
             return NONE;
         }

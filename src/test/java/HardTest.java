@@ -1,0 +1,87 @@
+/** Promises 6 to 9 and 15 on texts that take much search, or much room. */
+public final class HardTest {
+    private static final Tally TALLY = new Tally("HardTest");
+
+    public static void main(String[] args) {
+        identities();
+        programs();
+        largest();
+        TALLY.close();
+    }
+
+    private static void compare(String name, String text) {
+        Model model = new Model(text);
+        TALLY.due(name + " is right", 0, model.fault);
+        new Comparison(TALLY, name, text).all();
+    }
+
+    private static void identities() {
+        String two = "width 6; var a; var b; any a : 6; any b : 6; ";
+        compare("turned factors", two + "assert a * b == b * a;");
+        compare("division", two + "assert a / b * b + a % b == a || b == 0; assert b == 0 || a % b < b;");
+        compare("square", two + "assert (a + b) * (a + b) == a * a + 2 * a * b + b * b;");
+        compare("no square", two + "assert a * a * 4 % 8 != 3 + b * b * 4 % 8;");
+        compare("shifts", two + "assert b >= 6 || a << b >> b == (a & (63 >> b));");
+        compare("exclusive or", two + "assert (a ^ b) == (a | b) - (a & b); assert a + b == (a ^ b) + ((a & b) << 1);");
+        compare("least of two", "width 5; var a; var b; fun min(p, q) = p < q ? p : q;"
+            + " any a : 5; any b : 5; assert min(a, b) == min(b, a); assert min(a, b) <= a; assert min(a, b) < a;");
+        compare("sign", "width 4; var a; var b; any a : 4; any b : 4;"
+            + " assert less(a, b) == ((a ^ 8) < (b ^ 8)); assert less(a, 0) == a >> 3; assert !less(a - b, 0) || less(a, b);");
+        compare("factors", "width 8; var a; var b; any a : 6; any b : 6; assume a > 1 && b > 1; assume a < 16 && b < 16; assert a * b != 143; assert a * b != 139;");
+    }
+
+    private static void programs() {
+        compare("greatest divisor", "width 5; var x; var y; var a; var b; any a : 5; any b : 5; x = a; y = b;"
+            + " assume a != 0 && b != 0; while x != y limit 30 { if x > y { x = x - y; } else { y = y - x; } }"
+            + " assert a % x == 0; assert b % x == 0; assert x < 31;");
+        compare("sum", "width 8; var i; var s; var n; any n : 4; while i < n limit 15 { i = i + 1; s = s + i; }"
+            + " assert s == n * (n + 1) / 2; assert s < 120;");
+        compare("sorted", "width 3; var t[4]; var i; var j; var h; any h : 3; t[0] = h; any h : 3; t[1] = h;"
+            + " any h : 3; t[2] = h; any h : 3; t[3] = h; while i < 3 limit 3 { j = 0; while j < 3 limit 3 {"
+            + " if t[j] > t[j + 1] { h = t[j]; t[j] = t[j + 1]; t[j + 1] = h; } j = j + 1; } i = i + 1; }"
+            + " assert t[0] <= t[1] && t[1] <= t[2] && t[2] <= t[3]; assert t[0] + t[3] != 7;");
+        compare("inputs in rounds", "width 4; var s; var x; var k; while k < 6 limit 6 { any x : 2;"
+            + " if x == 3 { s = s + x; } else if x == 2 { s = s - 1; } else { assume s < 12; } k = k + 1; }"
+            + " assert s != 11; assert s != 15;");
+        compare("bits", "width 8; var x; var c; var n; any x : 8; any n : 3; while x >> c limit 8 { c = c + 1; }"
+            + " assert c <= 8; assert x < 1 << n || c > n; assert c != n;");
+    }
+
+    private static void largest() {
+        StringBuilder text = new StringBuilder("width 8; var a; var b; var q; any a : 6; any b : 6; a = a * 5; ");
+        for (int i = 0; i < 6; i++) {
+            text.append("q = a / (b + 1); assert q * (b + 1) + a % (b + 1) == a; a = a + 37; ");
+        }
+        compare("many divisions", text.toString());
+        compare("rests", "width 8; var h; var x; var y; var i; any x : 6; any y : 6; h = x;"
+            + " while i < 9 limit 9 { h = (h * 13 + y) % (x + 3) + i; i = i + 1; } assert h < 90; assert h != 255;");
+        text = new StringBuilder("width 1; var x; var y; any x : 1; any y : 1; ");
+        for (int i = 0; i < 3; i++) {
+            text.append("while x limit 50 { while y limit 50 { } }");
+        }
+        compare("many rounds", text.toString());
+        text = new StringBuilder("width 1; var x; any x : 1; ");
+        text.append("while x limit 50 { while x limit 50 { } while x limit 50 { } while x limit 50 { } }");
+        compare("most gates", text.toString());
+        text = new StringBuilder("width 8; var t[16]; var i; var x; any x : 8; any i : 4; ");
+        for (int i = 0; i < 10; i++) {
+            text.append("t[i] = t[i + 3] + x; i = i + 5 & 15; ");
+        }
+        compare("array", text.append("assert t[x & 15] != x * 2;").toString());
+        compare("calls", calls());
+    }
+
+    /** FUNCTIONS that cost next to nothing, called as often as COSTS allow. */
+    private static String calls() {
+        StringBuilder text = new StringBuilder("width 2; var x; fun f0(a, b, c, d, e, f, g, h) = "
+            + Tally.times("~", 50) + "a; ");
+        String call = "p";
+        for (int i = 0; i < 24; i++) {
+            call = "f0(" + call + Tally.times(",~~~~~~~~~~p", 7) + ")";
+        }
+        text.append("fun f1(p) = ").append(call).append("; fun f2(p) = ");
+        text.append(Tally.times("f1(", 30)).append("p").append(Tally.times(")", 30)).append("; ");
+        text.append("any x : 2; while x != 1 limit 5 { x = f2(x); x = ~f2(x + 1); x = f2(f2(x)); x = f2(f2(f2(x))); assert x != 3; }");
+        return text.toString();
+    }
+}
