@@ -628,6 +628,7 @@ public final class RunProver {
         static final int MOST_CHECKS = 30;
         static final int MOST_STATEMENTS = 2700;
         static final int LONGEST_ARRAY = 16;
+        static final int MOST_PARAMETERS = 8;
         static final int KIND_ASSERT = 1;
         static final int KIND_ARRAY = 2;
         static final int KIND_WHILE = 3;
@@ -775,7 +776,6 @@ public final class RunProver {
     /** Reads EXPRESSIONS into code, and tells their COSTS and DEPTHS. */
     static final class Expressions {
         static final int MOST_COST = 1000000;
-        private static final int MOST_PARAMETERS = 8;
         /** At most one operator of each of ten levels waits at each of the levels of nesting. */
         private static final int MOST_WAITING = 10 * (Tokens.MOST_NESTED + 2);
 
@@ -948,7 +948,7 @@ public final class RunProver {
             int given = 0;
             tokens.take(Tokens.OPEN);
             boolean more = true;
-            while (more && given < MOST_PARAMETERS) {
+            while (more && given < Program.MOST_PARAMETERS) {
                 within = Math.max(within, expression(nest + 1));
                 given++;
                 more = tokens.kind == Tokens.COMMA && given < wanted;
@@ -1036,7 +1036,6 @@ public final class RunProver {
         private static final int MOST_COSTS = 30000;
         private static final int MOST_DEPTH = 200;
         private static final int MOST_LIMIT = 50;
-        private static final int MOST_PARAMETERS = 8;
         private static final int STATEMENT_COST = 8;
 
         final Tokens tokens;
@@ -1121,8 +1120,8 @@ public final class RunProver {
         private int parameters() {
             boolean more = true;
             int amount = 0;
-            for (; more && amount <= MOST_PARAMETERS; amount++) {
-                int name = names.declare(tokens, Names.PARAMETER, amount < MOST_PARAMETERS);
+            for (; more && amount <= Program.MOST_PARAMETERS; amount++) {
+                int name = names.declare(tokens, Names.PARAMETER, amount < Program.MOST_PARAMETERS);
                 names.define(name, Names.PARAMETER, amount);
                 more = tokens.kind == Tokens.COMMA;
                 if (more) {
@@ -2349,6 +2348,7 @@ public final class RunProver {
 
         /** Draws all consequences: a clause that can't hold any more, else NONE. */
         private int propagate() {
+            // the trail has each node once at most, so it can't run away from this loop
             for (; done < trailSize; done++) {
                 int literal = trail[done] ^ 1;
                 int place = firstWatch[literal];

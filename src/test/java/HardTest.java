@@ -5,6 +5,7 @@ public final class HardTest {
     public static void main(String[] args) {
         identities();
         programs();
+        deepest();
         largest();
         TALLY.close();
     }
@@ -45,6 +46,29 @@ public final class HardTest {
             + " assert s != 11; assert s != 15;");
         compare("bits", "width 8; var x; var c; var n; any x : 8; any n : 3; while x >> c limit 8 { c = c + 1; }"
             + " assert c <= 8; assert x < 1 << n || c > n; assert c != n;");
+    }
+
+    /** As much of everything as the document allows: nesting, INPUTS, CHECKS, NAMES. */
+    private static void deepest() {
+        String head = "width 3; var x; var y; any x : 3; ";
+        compare("blocks", head + Tally.times("if x > 2 { ", 50) + "y = x; assert x != 5;" + Tally.times("}", 50));
+        compare("else if", head + Tally.times("if x == 4 { y = 1; } else ", 50)
+            + "{ y = x; assert x != 5; } assert y != 7;");
+        compare("rounds in rounds", head + Tally.times("if 1 { ", 22)
+            + Tally.times("while x > 2 limit 1 { ", 28) + "y = x; x = 0;" + Tally.times("}", 50));
+        compare("brackets", head + "y = " + Tally.times("(x + ", 50) + "1" + Tally.times(")", 50) + "; assert y != 5;");
+        compare("twelve inputs", "width 2; var x; var s; while x != 3 limit 12 { any x : 1; s = s * 2 + x; x = x & s; }"
+            + " assert s != 2;");
+        StringBuilder text = new StringBuilder("width 5; var x; any x : 5; ");
+        for (int c = 0; c < 30; c++) {
+            text.append("assert x != " + (31 - c) + "; ");
+        }
+        compare("thirty checks", text.toString());
+        text = new StringBuilder("width 2; ");
+        for (int n = 0; n < 200; n++) {
+            text.append("var v" + n + (n % 2 == 0 ? "[16]; " : "; "));
+        }
+        compare("two hundred names", text + "any v1 : 2; v0[v1] = 3; v198[3] = v0[2]; v199 = v198[v1]; assert v199 != 3;");
     }
 
     private static void largest() {

@@ -63,6 +63,17 @@ public final class PromisesTest {
         TALLY.thrown("feed of a full tape", 3, () -> x.feed(0, 0, 0, 0, 0));
         TALLY.due("read of a full tape", -1, x.read());
         TALLY.due("feed again", 20, x.feed(0, 0, 0, 0, 0));
+        char[] lasts = {'7', 'a', '<', '\u00ff', '#', ' '};
+        int[] faults = {1, 2, 1, 1, 0, 0};
+        for (int k = 0; k < lasts.length; k++) {
+            RunProver full = new RunProver();
+            Tally.give(full, "width 3;" + Tally.times(" ", 65516 - 8));
+            full.feed(0x20202020, 0x20202020, 0x20202020, 0x20202020, 0x20202000 | lasts[k]);
+            TALLY.due("all is full", 65536, full.count(5));
+            full.read();
+            TALLY.due("fault at the last byte", faults[k], full.fault(0));
+            TALLY.due("its place", faults[k] == 0 ? 0 : 65535, full.fault(1));
+        }
     }
 
     /** Promise 3. */
