@@ -2019,10 +2019,12 @@ public final class RunProver {
         final int[] literals = new int[MOST_LITERALS];
         final int[] starts = new int[MOST + 1];
         int amount;
+        private int given;
 
         /** The goals as clauses: each by itself, or one for all if one of them is enough. */
         void begin(int[] goals, int goalCount, boolean all) {
             amount = 0;
+            given = 0;
             addOne(Gates.TRUE);
             if (!all) {
                 add(goals, goalCount);
@@ -2032,25 +2034,29 @@ public final class RunProver {
             }
         }
 
+        /** The clauses of the gates that the goals hang on; what comes behind them is learnt. */
         void addGates(Gates gates) {
             for (int n = 1; n < gates.size; n++) {
                 if (gates.wanted[n] != 0) {
-                    int a = gates.first[n];
-                    int b = gates.second[n];
-                    switch (gates.kinds[n]) {
-                        case Gates.AND:
-                            addAnd(n << 1, a, b);
-                            break;
-                        case Gates.XOR:
-                            addXor(n << 1, a, b);
-                            break;
-                        case Gates.MUX:
-                            addMux(n << 1, a, b, gates.third[n]);
-                            break;
-                        default:
-                            break;
-                    }
+                    addGate(n << 1, gates.kinds[n], gates.first[n], gates.second[n], gates.third[n]);
                 }
+            }
+            given = amount;
+        }
+
+        private void addGate(int out, int kind, int a, int b, int c) {
+            switch (kind) {
+                case Gates.AND:
+                    addAnd(out, a, b);
+                    break;
+                case Gates.XOR:
+                    addXor(out, a, b);
+                    break;
+                case Gates.MUX:
+                    addMux(out, a, b, c);
+                    break;
+                default:
+                    break;
             }
         }
 
@@ -2117,10 +2123,10 @@ public final class RunProver {
             return amount < MOST && size <= MOST_LITERALS - starts[amount];
         }
 
-        /** Whether a clause fits so that all clauses of decisions alone still do behind it. */
+        /** Whether a learnt clause fits, with room behind it for all clauses of decisions alone. */
         boolean fitsEarly(int size) {
-            return amount < MOST - DECISION_CLAUSES
-                && size <= MOST_LITERALS - DECISION_LITERALS - starts[amount];
+            return amount - given < LEARNT_CLAUSES
+                && size <= LEARNT_LITERALS - (starts[amount] - starts[given]);
         }
     }
 

@@ -1,3 +1,5 @@
+import java.lang.reflect.Field;
+
 /** Promise 15: the checker takes what follows and nothing else. */
 public final class CheckerTest {
     private static final Tally TALLY = new Tally("CheckerTest");
@@ -19,11 +21,12 @@ public final class CheckerTest {
         checker.begin(4);
     }
 
-    public static void main(String[] args) {
+    public static void main(String[] args) throws ReflectiveOperationException {
         refutation();
         refused();
         literals();
         oneRefusedSpoilsAll();
+        doubtsAreCounted();
         everyQuestion();
         TALLY.close();
     }
@@ -87,6 +90,34 @@ public final class CheckerTest {
         yes("b", t.checker.acceptLiteral(B, 2));
         yes("the empty clause", t.accepts(new int[0], 3));
         no("refuted all the same?", t.checker.refuted);
+        t = new CheckerTest();
+        no("a literal that is wrong", t.checker.acceptLiteral(C, 0));
+        yes("a", t.accepts(new int[] {A}, 0, 1));
+        yes("b", t.checker.acceptLiteral(B, 2));
+        yes("the empty clause", t.accepts(new int[0], 3));
+        no("refuted all the same?", t.checker.refuted);
+    }
+
+    /** With a checker that has accepted nothing every answer that there are none is in doubt. */
+    private static void doubtsAreCounted() throws ReflectiveOperationException {
+        RunProver prover = Tally.reading("width 2; var a; any a : 2; assert a * a != 2; assert a != 3;");
+        Field field = RunProver.class.getDeclaredField("checker");
+        field.setAccessible(true);
+        field.set(prover, new RunProver.Checker(new RunProver.Clauses()));
+        TALLY.due("breaks", 0, prover.breaks(0));
+        TALLY.due("one in doubt", 1, prover.doubts());
+        TALLY.due("breaks", 1, prover.breaks(1));
+        TALLY.due("prove", 1, prover.prove());
+        TALLY.due("what was found is in no doubt", 1, prover.doubts());
+        TALLY.due("reaches", 1, prover.reaches(1));
+        TALLY.due("ends", 0, prover.ends(0, 0, 3));
+        TALLY.due("two in doubt", 2, prover.doubts());
+        Tally.give(prover, "width 2; assert 1;");
+        prover.read();
+        TALLY.due("none since the read", 0, prover.doubts());
+        TALLY.due("prove", -1, prover.prove());
+        TALLY.due("breaks", 0, prover.breaks(0));
+        TALLY.due("two again", 2, prover.doubts());
     }
 
     /** A search without an answer must never come about; here: each one against all INPUTS. */

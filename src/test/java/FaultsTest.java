@@ -320,7 +320,7 @@ public final class FaultsTest {
 
     private static void depths() {
         String tildes = Tally.times("~", 49);
-        String chain = "width 1; var x; fun f0(a) = " + tildes.substring(1) + "a; fun f1(a) = " + tildes
+        String chain = "width 1; var x; var t[1]; fun f0(a) = " + tildes.substring(1) + "a; fun f1(a) = " + tildes
             + "f0(a); fun f2(a) = " + tildes + "f1(a); fun f3(a) = ";
         String full = chain + tildes + "f2(a); ";
         String less = chain + tildes.substring(1) + "f2(a); ";
@@ -336,6 +336,12 @@ public final class FaultsTest {
         good(less + "x = f3(x) ? 1 : 0; x = less(1, f3(x)); x = f3(f0(x));");
         bad(4, less + "x = f3(x) ? 1 : 0 ? 1 : f3(0);\u00a7");
         bad(4, less + "x = less(1, ~f3(x));\u00a7");
+        good(less + "x = t[f3(x)]; t[~f3(x)] = ~f3(x);");
+        bad(4, less + "x = ~t[f3(x)];\u00a7");
+        bad(4, less + "t[t[~f3(x)]] = 1;\u00a7");
+        bad(4, less + "x = f0(~f3(x));\u00a7");
+        bad(4, less + "if !!f3(x) { }\u00a7");
+        bad(4, less + "while - -f3(x) limit 1 { }\u00a7");
         good("width 1; var x; x = x" + Tally.times("+x", 300) + ";");
     }
 

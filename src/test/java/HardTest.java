@@ -1,8 +1,10 @@
+import java.lang.reflect.Field;
+
 /** Promises 6 to 9 and 15 on texts that take much search, or much room. */
 public final class HardTest {
     private static final Tally TALLY = new Tally("HardTest");
 
-    public static void main(String[] args) {
+    public static void main(String[] args) throws ReflectiveOperationException {
         identities();
         programs();
         deepest();
@@ -71,12 +73,25 @@ public final class HardTest {
         compare("two hundred names", text + "any v1 : 2; v0[v1] = 3; v198[3] = v0[2]; v199 = v198[v1]; assert v199 != 3;");
     }
 
-    private static void largest() {
+    /** That the search does take its second way there, with clauses of decisions alone. */
+    private static void shortOfRoom(String text) throws ReflectiveOperationException {
+        RunProver prover = Tally.reading(text);
+        TALLY.due("none breaks", -1, prover.prove());
+        TALLY.due("no doubt", 0, prover.doubts());
+        Field search = RunProver.class.getDeclaredField("search");
+        search.setAccessible(true);
+        Field second = RunProver.Search.class.getDeclaredField("decisionsAlone");
+        second.setAccessible(true);
+        TALLY.due("decisions alone", 1, second.getBoolean(search.get(prover)) ? 1 : 0);
+    }
+
+    private static void largest() throws ReflectiveOperationException {
         StringBuilder text = new StringBuilder("width 8; var a; var b; var q; any a : 6; any b : 6; a = a * 5; ");
         for (int i = 0; i < 6; i++) {
             text.append("q = a / (b + 1); assert q * (b + 1) + a % (b + 1) == a; a = a + 37; ");
         }
         compare("many divisions", text.toString());
+        shortOfRoom(text.toString());
         compare("rests", "width 8; var h; var x; var y; var i; any x : 6; any y : 6; h = x;"
             + " while i < 9 limit 9 { h = (h * 13 + y) % (x + 3) + i; i = i + 1; } assert h < 90; assert h != 255;");
         text = new StringBuilder("width 1; var x; var y; any x : 1; any y : 1; ");
