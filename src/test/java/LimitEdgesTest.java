@@ -19,6 +19,7 @@ public final class LimitEdgesTest {
         whatComesFirst();
         depthOfEachKind();
         depthOfTwoOperands();
+        depthOfOne();
         depthsThatAreNoneOfTheLast();
         costs();
         inputs();
@@ -278,11 +279,20 @@ public final class LimitEdgesTest {
         EDGE.step("left of right", ladder(197) + "x = x + top(x) * x;", 4, ladder(198) + "x = x + top(x) * x;\u00a7");
         EDGE.step("right of left", ladder(197) + "x = x * top(x) + x;", 4, ladder(198) + "x = x * top(x) + x;\u00a7");
         EDGE.good("many to the left", "width 1; var x; x = x" + Tally.times("|x", 1500) + ";");
-        String rightwards = "x||x&&x|x^x&x==x<x<<x+x*";
-        String twenty = "x = " + Tally.times(rightwards + "(", 19) + rightwards;
-        String close = "x" + Tally.times(")", 19) + ";";
-        EDGE.step("ten signs twenty times, each more tightly", "width 1; var x; " + twenty.replaceFirst("x\\|\\|", "") + close, 4,
-            "width 1; var x; " + twenty + close + "\u00a7");
+    }
+
+    /** A NUMBER, variable, PARAMETER 1: ten signs twenty times, each more tightly, make 200 more. */
+    private static void depthOfOne() {
+        String signs = "@||@&&@|@^@&@==@<@<<@+@*";
+        String more = Tally.times(signs + "(", 19) + signs + "@" + Tally.times(")", 19);
+        String less = more.substring("@||".length());
+        String[] ones = {"x = #;x", "x = #;1", "x = #;0", "fun f(p) = #;p", "fun f(p) = #;1"};
+        for (String one : ones) {
+            String leaf = one.substring(one.length() - 1);
+            String text = "width 1; var x; " + one.substring(0, one.length() - 1);
+            EDGE.step("a depth of one: " + leaf, text.replace("#", less).replace("@", leaf), 4,
+                text.replace("#", more).replace("@", leaf) + "\u00a7");
+        }
     }
 
     private static void depthsThatAreNoneOfTheLast() {

@@ -17,6 +17,8 @@ public final class TapeEdgesTest {
         readTakesTheTape();
         readWithAFaultTakesAllAway();
         readAgain();
+        muchReadOneBehindTheOther();
+        readOfLongTexts();
         faultOfTheLastRead();
         TALLY.close();
     }
@@ -230,6 +232,67 @@ public final class TapeEdgesTest {
         TALLY.thrown("no check", 1, () -> x.breaks(0));
         TALLY.thrown("no value 2", 1, () -> x.ends(0, 0, 2));
         TALLY.due("value", 0, x.value(0, 0));
+    }
+
+    /** Promise 4: all that was before is gone, so what is counted begins anew with each TEXT. */
+    private static void muchReadOneBehindTheOther() {
+        StringBuilder names = new StringBuilder("width 3; ");
+        for (int n = 0; n < 200; n++) {
+            names.append("var v" + n + "[16]; ");
+        }
+        String signs = "x||x&&x|x^x&x==x<x<<x+x*(";
+        String deep = "width 1; var x; x = " + Tally.times(signs, 19) + "x&&x|x^x&x==x<x<<x+x*x" + Tally.times(")", 19) + ";";
+        String tooDeep = "width 1; var x; x = " + Tally.times(signs, 20) + "x" + Tally.times(")", 20) + ";";
+        String most = "width 1; var x; while 0 limit 50 { " + Tally.times("x = 1; ", 49) + "}" + Tally.times("x = x;", 36);
+        String[] texts = {names.toString(), deep, most, "width 8; var a; any a : 8; any a : 4;",
+            "width 3; " + Tally.times("assert 1; ", 30), "width 1; var x;" + Tally.times("assume 1;", 300),
+            "width 3; fun f(p) = q;", "width 3; fun f(p) = " + Tally.times("(", 60), "width 8; var x; any x : 8; any x : 8;",
+            "width 3; fun f(p, q) = p; var x; if 1 { x = f(1, ", "width 3; var p; p = 1; while p limit 50 { p = 2; $", tooDeep};
+        int[] faults = {0, 0, 0, 0, 0, 0, 2, 4, 4, 1, 1, 4};
+        RunProver x = new RunProver();
+        for (int k = 0; k < 4 * texts.length; k++) {
+            int at = k < 2 * texts.length ? k / 2 : k * 5 % texts.length;
+            // a new object now and then, as one is used for 512 calls alone
+            x = k % 3 == 0 ? new RunProver() : x;
+            Tally.give(x, texts[at]);
+            x.read();
+            TALLY.due("fault of " + Edge.shown(texts[at]), faults[at], x.fault(0));
+            RunProver alone = Tally.reading(texts[at]);
+            for (int what = 0; what <= 6; what++) {
+                TALLY.due("count " + what + " of " + Edge.shown(texts[at]), alone.count(what), x.count(what));
+            }
+            TALLY.due("run of " + Edge.shown(texts[at]), alone.run(), x.run());
+        }
+    }
+
+    /** As much as 512 calls can feed, in a few TEXTS: none takes room from the next. */
+    private static void readOfLongTexts() {
+        RunProver x = new RunProver();
+        for (int k = 0; k < 2; k++) {
+            String text = "width 1;var x;var y;any x:1;y=x" + Tally.times("^x", 2400) + ";assert y==x;";
+            Tally.give(x, text);
+            TALLY.due("checks", 1, x.read());
+            TALLY.due("prove", -1, x.prove());
+            x.put(0, 1);
+            TALLY.due("an odd number of them", 1, x.value(1, 0));
+        }
+        RunProver y = new RunProver();
+        for (int k = 0; k < 2; k++) {
+            Tally.give(y, "width 1;var x;" + Tally.times("x=1;", 1200) + "x=0;assert x;");
+            TALLY.due("checks", 1, y.read());
+            TALLY.due("the last one counts", 0, y.run());
+            TALLY.due("value", 0, y.value(0, 0));
+        }
+        RunProver z = new RunProver();
+        for (int k = 0; k < 3; k++) {
+            StringBuilder text = new StringBuilder("width 3;var x;");
+            for (int f = 0; f < 99; f++) {
+                text.append("fun f" + f + "(p)=" + (f == 0 ? "p" : "f" + (f - 1) + "(p)") + (f > 0 && f % 10 == 0 ? "+1" : "") + ";");
+            }
+            Tally.give(z, text + "x=f98(2);");
+            TALLY.due("checks", 0, z.read());
+            TALLY.due("value", 2 + 9 & 7, z.value(0, 0));
+        }
     }
 
     /** Promise 5: of the last read: 0 the FAULT (0: none), 1 its place (0). Else -1. */
