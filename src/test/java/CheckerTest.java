@@ -26,6 +26,8 @@ public final class CheckerTest {
         refused();
         literals();
         oneRefusedSpoilsAll();
+        assumptionsAreWithdrawn();
+        eachQuestionBeginsAnew();
         doubtsAreCounted();
         everyQuestion();
         TALLY.close();
@@ -96,6 +98,40 @@ public final class CheckerTest {
         yes("b", t.checker.acceptLiteral(B, 2));
         yes("the empty clause", t.accepts(new int[0], 3));
         no("refuted all the same?", t.checker.refuted);
+    }
+
+    /** What a step was held against is not known behind it, nor what came of that. */
+    private static void assumptionsAreWithdrawn() {
+        CheckerTest t = new CheckerTest();
+        yes("a or c", t.accepts(new int[] {A, C}, 0, 1));
+        no("the opposite of a was not learnt", t.checker.acceptLiteral(B, 0));
+        t = new CheckerTest();
+        yes("a or c", t.accepts(new int[] {A, C}, 0, 1));
+        no("nor b from it", t.accepts(new int[0], 1));
+        t = new CheckerTest();
+        yes("c or a", t.accepts(new int[] {C, A}, 0, 1));
+        no("nor the opposite of a, if it came second", t.checker.acceptLiteral(B, 0));
+        t = new CheckerTest();
+        no("a step that is refused", t.accepts(new int[] {A}, 0));
+        no("leaves nothing, too", t.accepts(new int[0], 1));
+        t = new CheckerTest();
+        yes("a", t.accepts(new int[] {A}, 0, 1));
+        yes("a or c, held against what is known", t.accepts(new int[] {C, A}));
+        yes("a is still known", t.accepts(new int[] {B}, 2));
+        no("c is not", t.accepts(new int[] {C}));
+    }
+
+    private static void eachQuestionBeginsAnew() {
+        CheckerTest t = new CheckerTest();
+        no("a step that is wrong", t.accepts(new int[] {C}, 0));
+        t.checker.begin(4);
+        yes("a", t.accepts(new int[] {A}, 0, 1));
+        yes("b", t.accepts(new int[] {B}, 2));
+        yes("the empty clause", t.accepts(new int[0], 3));
+        yes("refuted", t.checker.refuted);
+        t.checker.begin(4);
+        no("not a step of the question before", t.accepts(new int[0], 3));
+        no("not refuted", t.checker.refuted);
     }
 
     /** With a checker that has accepted nothing every answer that there are none is in doubt. */

@@ -5,10 +5,11 @@ final class Comparison {
     private final Tally tally;
     private final String name;
     private final Model model;
-    private final RunProver prover = new RunProver();
+    private final RunProver prover;
 
-    Comparison(Tally tally, String name, String text) {
+    Comparison(Tally tally, String name, String text, RunProver prover) {
         this.tally = tally;
+        this.prover = prover;
         this.name = name + " ";
         model = new Model(text);
         Tally.give(prover, text);

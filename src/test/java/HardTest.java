@@ -15,7 +15,7 @@ public final class HardTest {
     private static void compare(String name, String text) {
         Model model = new Model(text);
         TALLY.due(name + " is right", 0, model.fault);
-        new Comparison(TALLY, name, text).all();
+        new Comparison(TALLY, name, text, new RunProver()).all();
     }
 
     private static void identities() {

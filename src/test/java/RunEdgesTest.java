@@ -15,6 +15,7 @@ public final class RunEdgesTest {
         roundsWithinRounds();
         theRunIsOver();
         nestedFiftyDeep();
+        functionsWithinFunctions();
         checksAreNumbered();
         inputsOfTheUnrolledText();
         inputsThatAreNotComeTo();
@@ -240,6 +241,25 @@ public final class RunEdgesTest {
         TALLY.due("signs before", 6 - 25 & 7, x.value(1, 0));
         x = with(head + "b = " + Tally.times("a == 7 ? 1 : ", 50) + "a;", 6);
         TALLY.due("choices", 6, x.value(1, 0));
+    }
+
+    /** Each call has PARAMETERS of its own, and those of the one around it are there again behind it. */
+    private static void functionsWithinFunctions() {
+        String head = "width 8; var x; fun f(a, b) = a * 10 + b; fun g(b, a) = f(b, a) * 2 + a - b; fun h(a) = g(f(a, 1), a) - g(1, a) + a; ";
+        TALLY.due("f", 12, with(head + "x = f(1, 2);").value(0, 0));
+        TALLY.due("g", 25, with(head + "x = g(1, 2);").value(0, 0));
+        TALLY.due("within itself", 123, with(head + "x = f(f(1, 2), 3);").value(0, 0));
+        TALLY.due("on both sides", 42, with(head + "x = f(f(0, 2), f(2, 2));").value(0, 0));
+        int g1 = (21 * 10 + 2) * 2 + 2 - 21;
+        int g2 = (1 * 10 + 2) * 2 + 2 - 1;
+        TALLY.due("h", g1 - g2 + 2 & 255, with(head + "x = h(2);").value(0, 0));
+        TALLY.due("beside others", g1 - g2 + 2 + 12 - 25 & 255, with(head + "x = h(2) + f(1, 2) - g(1, 2);").value(0, 0));
+        TALLY.due("eight", 87, with("width 8; var x; fun f(a, b, c, d, e, g, h, i) = i * 10 + h; x = f(1, 2, 3, 4, 5, 6, 7, 8);").value(0, 0));
+        StringBuilder chain = new StringBuilder("width 8; var x; fun f0(a, b) = a - b; ");
+        for (int k = 1; k < 66; k++) {
+            chain.append("fun f" + k + "(a, b) = f" + (k - 1) + "(a + 1, b) + b; ");
+        }
+        TALLY.due("66, one in the other", 10 + 65 - 3 + 65 * 3 & 255, with(chain + "x = f65(10, 3);").value(0, 0));
     }
 
     /** CHECKS are numbered from 0 as assert, while and the NAMES of ARRAYS in such STATEMENTS come in the TEXT. */
