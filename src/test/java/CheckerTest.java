@@ -28,6 +28,7 @@ public final class CheckerTest {
         oneRefusedSpoilsAll();
         assumptionsAreWithdrawn();
         eachQuestionBeginsAnew();
+        noQuestionHasAnothersRefutation();
         doubtsAreCounted();
         everyQuestion();
         TALLY.close();
@@ -132,6 +133,22 @@ public final class CheckerTest {
         t.checker.begin(4);
         no("not a step of the question before", t.accepts(new int[0], 3));
         no("not refuted", t.checker.refuted);
+    }
+
+    /** The program begins the checker anew for each question: what was refuted before does not count. */
+    private static void noQuestionHasAnothersRefutation() throws ReflectiveOperationException {
+        RunProver prover = Tally.reading("width 2; var a; any a : 2; assert a * a != 2; assert a != 3;");
+        Field field = RunProver.class.getDeclaredField("checker");
+        field.setAccessible(true);
+        RunProver.Checker used = (RunProver.Checker) field.get(prover);
+        TALLY.due("breaks", 0, prover.breaks(0));
+        yes("refuted", used.refuted);
+        TALLY.due("breaks", 1, prover.breaks(1));
+        no("nothing is refuted of what was found", used.refuted);
+        TALLY.due("ends", 0, prover.ends(0, 0, 3));
+        yes("refuted by itself", used.refuted);
+        TALLY.due("reaches", 1, prover.reaches(0));
+        no("nothing is refuted of what was found", used.refuted);
     }
 
     /** With a checker that has accepted nothing every answer that there are none is in doubt. */

@@ -101,13 +101,36 @@ public final class HardTest {
         compare("many rounds", text.toString());
         text = new StringBuilder("width 1; var x; any x : 1; ");
         text.append("while x limit 50 { while x limit 50 { } while x limit 50 { } while x limit 50 { } }");
-        compare("most gates", text.toString());
+        compare("rounds that change nothing", text.toString());
+        manyCircuits();
         text = new StringBuilder("width 8; var t[16]; var i; var x; any x : 8; any i : 4; ");
         for (int i = 0; i < 10; i++) {
             text.append("t[i] = t[i + 3] + x; i = i + 5 & 15; ");
         }
         compare("array", text.append("assert t[x & 15] != x * 2;").toString());
         compare("calls", calls());
+    }
+
+    /** One object, ten times: so many circuits would not fit beside each other. */
+    private static void manyCircuits() {
+        String text = "width 8; var x; var y; var z; fun f(a, b, c) = a ? b : c; fun g(a, b, c) = f(f(a, b, c), f(b, c, a), f(c, a, b));"
+            + " any x : 4; any y : 4; any z : 4; x = x * 13; y = y * 11; z = z * 7;"
+            + " while 1 limit 25 { x = g(x, y, z + 1); y = g(y, z, x ^ 5); z = g(z, x, y - 3); }";
+        Model model = new Model(text);
+        TALLY.due("many circuits are right", 0, model.fault);
+        RunProver prover = new RunProver();
+        for (int k = 0; k < 10; k++) {
+            Tally.give(prover, text);
+            TALLY.due("read " + k, 1, prover.read());
+            int[] with = {3 + k, 15 - k, 5};
+            for (int i = 0; i < 3; i++) {
+                prover.put(i, with[i]);
+            }
+            model.run(with);
+            for (int n = 0; n < 3; n++) {
+                TALLY.due("value " + n + " of circuit " + k, model.held(n, 0), prover.value(n, 0));
+            }
+        }
     }
 
     /** FUNCTIONS that cost next to nothing, called as often as COSTS allow. */
