@@ -2354,8 +2354,8 @@ public final class RunProver {
 
         /** Draws all consequences: a clause that can't hold any more, else NONE. */
         private int propagate() {
-            // the trail has each node once at most, so it can't run away from this loop
-            for (; done < trailSize; done++) {
+            // the trail grows on the way, but has each node once at most
+            for (; done < trailSize && done < trail.length; done++) {
                 int literal = trail[done] ^ 1;
                 int place = firstWatch[literal];
                 int before = NONE;

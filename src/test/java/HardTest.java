@@ -102,6 +102,7 @@ public final class HardTest {
         text = new StringBuilder("width 1; var x; any x : 1; ");
         text.append("while x limit 50 { while x limit 50 { } while x limit 50 { } while x limit 50 { } }");
         compare("rounds that change nothing", text.toString());
+        mostGates();
         manyCircuits();
         text = new StringBuilder("width 8; var t[16]; var i; var x; any x : 8; any i : 4; ");
         for (int i = 0; i < 10; i++) {
@@ -109,6 +110,23 @@ public final class HardTest {
         }
         compare("array", text.append("assert t[x & 15] != x * 2;").toString());
         compare("calls", calls());
+    }
+
+    /** Rounds without anything in them, of one bit: nothing makes more gates and clauses for its COSTS. */
+    private static void mostGates() throws ReflectiveOperationException {
+        StringBuilder text = new StringBuilder("width 1; var x; var y; var z; var u;"
+            + " any x : 1; any y : 1; any z : 1; any u : 1; while x limit 50 {"
+            + " while y limit 50 { } while z limit 50 { } while u limit 50 { } x = x ^ y; y = u; z = x; u = z; } ");
+        for (int i = 0; i < 19; i++) {
+            text.append("while ").append("xyzu".charAt(i % 4)).append(" limit 50 { } ");
+        }
+        compare("most gates", text.toString());
+        RunProver prover = Tally.reading(text.toString());
+        TALLY.due("costs of most gates", 29968, prover.count(4));
+        Field gates = RunProver.class.getDeclaredField("gates");
+        gates.setAccessible(true);
+        int made = ((RunProver.Gates) gates.get(prover)).size;
+        TALLY.due("as many gates as that: " + made, 1, made > 26000 && made < RunProver.Gates.MOST ? 1 : 0);
     }
 
     /** One object, ten times: so many circuits would not fit beside each other. */
