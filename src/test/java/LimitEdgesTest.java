@@ -297,6 +297,14 @@ public final class LimitEdgesTest {
 
     private static void depthsThatAreNoneOfTheLast() {
         EDGE.bad("the deepest is not the last", 4, ladder(199) + "x = top(1); x = 1;\u00a7");
+        String later = "fun a(q) = q; fun b(q, r) = a(q) + r; fun c(q) = b(q, a(q)); ";
+        EDGE.step("a function with others behind it", ladder(198) + later + "x = top(1);", 4,
+            ladder(199) + later + "x = top(1);\u00a7");
+        EDGE.step("in one of those behind it", ladder(197) + later + "fun d(q) = top(q); x = d(1);", 4,
+            ladder(198) + later + "fun d(q) = top(q); x = d(1);\u00a7");
+        EDGE.good("one that is not deep, behind a deep one", ladder(199) + later + "x = a(c(b(a(1), 1)));");
+        EDGE.bad("more operators that wait than any depth allows", 4,
+            "width 1; var x; x = " + Tally.times("1||1&&1|1^1&1==1<1<<1+1*(", 50) + "1" + Tally.times(")", 50) + ";\u00a7");
         EDGE.bad("with a remark behind it", 4, ladder(199) + "x = top(1); # end\u00a7");
         EDGE.bad("with blanks behind it", 4, ladder(199) + "x = top(1); \n\n\u00a7");
     }
