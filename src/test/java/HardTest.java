@@ -110,6 +110,8 @@ public final class HardTest {
         }
         compare("array", text.append("assert t[x & 15] != x * 2;").toString());
         compare("calls", calls());
+        compare("waiting arguments", waitingArguments());
+        TALLY.due("no deeper", 4, new Model(waitingArguments().replace("f4(x)", "~f4(x)")).fault);
     }
 
     /** Rounds without anything in them, of one bit: nothing makes more gates and clauses for its COSTS. */
@@ -149,6 +151,18 @@ public final class HardTest {
                 TALLY.due("value " + n + " of circuit " + k, model.held(n, 0), prover.value(n, 0));
             }
         }
+    }
+
+    /** A DEPTH of 200, and seven arguments that wait at almost every step of it. */
+    private static String waitingArguments() {
+        StringBuilder text = new StringBuilder("width 2; var x; fun f0(a, b, c, d, e, f, g, h) = h ^ b; ");
+        for (int i = 1; i <= 4; i++) {
+            int steps = i == 1 ? 47 : 49;
+            String inner = i == 1 ? "p" : "f" + (i - 1) + "(p)";
+            text.append("fun f").append(i).append("(p) = ").append(Tally.times("f0(p,~p,1,p,2,p,3,", steps))
+                .append(inner).append(Tally.times(")", steps)).append("; ");
+        }
+        return text.append("any x : 2; x = f4(x); assert x != 2;").toString();
     }
 
     /** FUNCTIONS that cost next to nothing, called as often as COSTS allow. */
